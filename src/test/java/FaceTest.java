@@ -1,0 +1,79 @@
+import java.lang.reflect.Constructor;
+import java.lang.reflect.Field;
+import java.lang.reflect.Method;
+import java.lang.reflect.Modifier;
+import java.util.Set;
+import java.util.TreeSet;
+import java.util.stream.Collectors;
+import java.util.stream.Stream;
+
+/** The public face of the document, and nothing else that can be seen from outside (LANGUAGE.md, rules 1 and 5). */
+public final class FaceTest {
+    private static final String[] FACE = {
+        "int make(int) IllegalArgumentException UnsupportedOperationException",
+        "int drop(int int) NoSuchElementException IllegalArgumentException UnsupportedOperationException",
+        "void serves(int int) IllegalArgumentException UnsupportedOperationException",
+        "void answers(int int int) IllegalArgumentException UnsupportedOperationException",
+        "int fails(int int) IllegalArgumentException UnsupportedOperationException",
+        "long call(int int int) IllegalArgumentException NoSuchElementException UnsupportedOperationException"
+            + " IllegalStateException",
+        "long again(int int int) IllegalArgumentException NoSuchElementException IllegalStateException",
+        "int collect(int) IllegalArgumentException UnsupportedOperationException",
+        "long sums()",
+        "int back() IllegalStateException",
+        "int told(int) IllegalArgumentException",
+        "long worth(int) IllegalArgumentException",
+        "int uses(int int) NoSuchElementException IllegalArgumentException",
+        "int numbers(int int) IllegalArgumentException",
+        "int count(int)",
+    };
+
+    public static void main(String[] args) {
+        Due due = new Due();
+        Class<?> face = StockDesk.class;
+        due.same("modifiers", Modifier.toString(face.getModifiers()), "public final");
+        due.same("constructors", constructors(face), "[public StockDesk()]");
+        Set<String> due15 = new TreeSet<>(Set.of(FACE));
+        due.same("methods", methods(face).toString(), due15.toString());
+        for (Method method : face.getDeclaredMethods()) {
+            int modifiers = method.getModifiers();
+            boolean fits = Modifier.isPublic(modifiers) ? !Modifier.isStatic(modifiers) : Modifier.isPrivate(modifiers);
+            due.same("visibility of " + method.getName(), fits ? 1 : 0, 1);
+        }
+        for (Field field : face.getDeclaredFields()) {
+            int modifiers = field.getModifiers();
+            due.same("private final " + field.getName(),
+                Modifier.isPrivate(modifiers) && Modifier.isFinal(modifiers) ? 1 : 0, 1);
+        }
+        for (Class<?> inside : face.getDeclaredClasses()) {
+            due.same("static " + inside.getName(), Modifier.isStatic(inside.getModifiers()) ? 1 : 0, 1);
+        }
+        noPrivateMethodIsNamedAsAPublicOne(due, face);
+        due.end();
+    }
+
+    private static String constructors(Class<?> face) {
+        return Stream.of(face.getDeclaredConstructors()).map(Constructor::toString).collect(Collectors.toList()).toString();
+    }
+
+    private static Set<String> methods(Class<?> face) {
+        return Stream.of(face.getDeclaredMethods()).filter(m -> Modifier.isPublic(m.getModifiers()))
+            .map(FaceTest::textOf).collect(Collectors.toCollection(TreeSet::new));
+    }
+
+    private static String textOf(Method method) {
+        String parameters = Stream.of(method.getParameterTypes()).map(Class::getSimpleName).collect(Collectors.joining(" "));
+        String exceptions = Stream.of(method.getExceptionTypes()).map(c -> " " + c.getSimpleName())
+            .collect(Collectors.joining());
+        return method.getReturnType().getSimpleName() + " " + method.getName() + "(" + parameters + ")" + exceptions;
+    }
+
+    private static void noPrivateMethodIsNamedAsAPublicOne(Due due, Class<?> face) {
+        Set<String> names = Stream.of(face.getDeclaredMethods()).filter(m -> Modifier.isPublic(m.getModifiers()))
+            .map(Method::getName).collect(Collectors.toSet());
+        Stream<Method> inside = Stream.of(face.getDeclaredClasses()).flatMap(c -> Stream.of(c.getDeclaredMethods()));
+        Stream<Method> own = Stream.of(face.getDeclaredMethods()).filter(m -> Modifier.isPrivate(m.getModifiers()));
+        Stream.concat(own, inside)
+            .forEach(m -> due.same("a name of the face: " + m.getName(), names.contains(m.getName()) ? 1 : 0, 0));
+    }
+}
