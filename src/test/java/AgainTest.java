@@ -3,6 +3,7 @@ public final class AgainTest {
     public static void main(String[] args) {
         Due due = new Due();
         answersAsACallWould(due);
+        secondHouseStartsAnew(due);
         changesNothing(due);
         wouldFail(due);
         failuresAreDoneAgain(due);
@@ -37,6 +38,25 @@ public final class AgainTest {
         due.same("again without the call", desk.again(0, 2, 5), 62);
         due.same("the greatest argument", desk.again(0, 2, 1000000), 2000052);
         due.same("the least argument", desk.again(0, 2, -1000000), -1999948);
+    }
+
+    private static void secondHouseStartsAnew(Due due) {
+        StockDesk desk = new StockDesk();
+        desk.make(0);
+        desk.answers(0, 50, 2);
+        due.same("again with base and factor", desk.again(0, 1, 5), 61);
+        desk.back();
+        due.same("again with them taken back", desk.again(0, 1, 5), 1);
+        desk.serves(0, 3);
+        due.refused("again with another kind", Due.MISSING, () -> desk.again(0, 1, 5));
+        desk.back();
+        due.same("again with the kind taken back", desk.again(0, 1, 5), 1);
+        desk.fails(0, 1);
+        due.refused("again with a way", Due.STATE, () -> desk.again(0, 1, 5));
+        desk.back();
+        due.same("again with the way taken back", desk.again(0, 1, 5), 1);
+        desk.back();
+        due.refused("again with the thing taken back", Due.MISSING, () -> desk.again(0, 1, 5));
     }
 
     private static void changesNothing(Due due) {
