@@ -29,7 +29,7 @@ public final class FaceTest {
     };
 
     public static void main(String[] args) {
-        Due due = new Due();
+        Due due = new Due("The public face");
         Class<?> face = StockDesk.class;
         due.same("modifiers", Modifier.toString(face.getModifiers()), "public final");
         due.same("constructors", constructors(face), "[public StockDesk()]");

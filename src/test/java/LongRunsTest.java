@@ -20,7 +20,7 @@ public final class LongRunsTest {
     }
 
     public static void main(String[] args) {
-        Due due = new Due();
+        Due due = new Due("Long runs");
         for (int run = 0; run < RUNS; run++) {
             new LongRunsTest(run).run(due, run);
         }
